@@ -48,7 +48,7 @@ final class House {
     static Clueyard withPuzzles(int count, int hourOfDay) {
         Clueyard x = new Clueyard();
         word(x, "aaa", 1);
-        x.pass(hourOfDay);
+        until(x, hourOfDay);
         for (int p = 0; p < count; p++) {
             readyClues(x, 0, 6);
             x.publish();
