@@ -270,7 +270,10 @@ public final class Clueyard {
         events.add(NONE, puzzle, entry, hour);
         int longer = 0;
         for (int s = 0; s < solverCount; s++) {
-            if (isStreakLongerBy(solvers[s], puzzle, openedNow)) {
+            int before = keptStreak(s);
+            solvers[s].payBack(puzzle, openedNow);
+            countIfSolved(s, puzzle);
+            if (keptStreak(s) > before) {
                 longer++;
             }
         }
@@ -395,17 +398,13 @@ public final class Clueyard {
 
     private void becomeRight(int solver, int puzzle, int cell) {
         events.add(solver, puzzle, cell, hour);
-        Progress progress = solvers[solver].progress();
-        progress.setRight(puzzle, cell, hour);
-        progress.countIfSolved(puzzle, puzzles[puzzle].openCells(), puzzles[puzzle].hourOfAppearing());
+        solvers[solver].progress().setRight(puzzle, cell, hour);
+        countIfSolved(solver, puzzle);
     }
 
-    private boolean isStreakLongerBy(Solver solver, int puzzle, int openedNow) {
-        Progress progress = solver.progress();
-        int before = progress.daysInARow(hour);
-        solver.payBack(puzzle, openedNow);
-        progress.countIfSolved(puzzle, puzzles[puzzle].openCells(), puzzles[puzzle].hourOfAppearing());
-        return progress.daysInARow(hour) > before;
+    private void countIfSolved(int solver, int puzzle) {
+        Puzzle solved = puzzles[puzzle];
+        solvers[solver].progress().countIfSolved(puzzle, solved.openCells(), solved.hourOfAppearing());
     }
 
     private int keptStreak(int solver) {

@@ -5,6 +5,7 @@ public final class FillTest {
     public static void main(String[] args) {
         fixing();
         weightsAndFixedLetters();
+        fillAtFirst();
         ties();
         columnsBreakTies();
         rowsWithoutColumns();
@@ -51,6 +52,24 @@ public final class FillTest {
         letters(x, "bbbbbbbbb");
         x.fix(4, 5);
         weigh(x, Clueyard.NONE, 0);
+    }
+
+    /** Each call finds the fill by itself, with no other call ahead of it. */
+    private static void fillAtFirst() {
+        Clueyard x = new Clueyard();
+        House.word(x, "aaa", 5);
+        check.due("15: fillAt(8)", x.fillAt(8), 0);
+        House.word(x, "iii", 6);
+        check.due("15: fillAt(8) with a heavier word", x.fillAt(8), 8);
+        x.setWeight(0, 7);
+        check.due("15: fillAt(0) with other weights", x.fillAt(0), 0);
+        x.fix(3, 8);
+        check.due("15: fillAt(0) with a fixed letter", x.fillAt(0), 8);
+        x.fix(4, 0);
+        check.element("15: fillAt(0) with two fixed letters", () -> x.fillAt(0));
+        check.due("13: fillWeightByAll() then", x.fillWeightByAll(), Clueyard.NONE);
+        x.fix(4, Clueyard.NONE);
+        check.due("14: fills() then", x.fills(), 1);
     }
 
     private static void ties() {

@@ -4,6 +4,7 @@ public final class StreakTest {
 
     public static void main(String[] args) {
         daysInARow();
+        lastCellTheDayAfter();
         ownMidnights();
         dayAheadOfTheFirst();
         lastDayOfAll();
@@ -43,6 +44,29 @@ public final class StreakTest {
         streak("on the next day", x, 0, 2);
         House.enterCells(x, 0, 4, 0, 8);
         streak("with two on the same day", x, 0, 2);
+    }
+
+    /** The day that counts is that of the last cell, for each of two solvers with other last cells. */
+    private static void lastCellTheDayAfter() {
+        Clueyard x = House.withPuzzle();
+        x.addSolver(0, 0);
+        x.addSolver(0, 0);
+        House.enterCells(x, 0, 0, 1, 8);
+        House.enterCells(x, 1, 0, 0, 7);
+        House.until(x, 24);
+        House.enterCells(x, 0, 0, 0, 0);
+        House.enterCells(x, 1, 0, 8, 8);
+        for (int s = 0; s < 2; s++) {
+            streak("on the day of the last cell", x, s, 1);
+        }
+        House.until(x, 48);
+        for (int s = 0; s < 2; s++) {
+            streak("a day later", x, s, 1);
+        }
+        House.until(x, 72);
+        for (int s = 0; s < 2; s++) {
+            streak("two days later", x, s, 0);
+        }
     }
 
     private static void ownMidnights() {
