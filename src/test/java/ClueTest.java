@@ -112,6 +112,7 @@ public final class ClueTest {
         check.due("18: lastUsed(6)", x.lastUsed(6), Clueyard.NONE);
         x.pass(1);
         check.due("21: publish() in the hour 24", x.publish(), 1);
+        check.state("21: publish() in the hour 24 again", () -> x.publish());
         check.due("22: clueOf(1, 0)", x.clueOf(1, 0), 6);
         check.due("18: lastUsed(11)", x.lastUsed(11), 1);
         check.due("18: lastUsed(12)", x.lastUsed(12), Clueyard.NONE);

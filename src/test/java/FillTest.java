@@ -9,7 +9,10 @@ public final class FillTest {
         ties();
         columnsBreakTies();
         rowsWithoutColumns();
+        eachColumnMustBeAWord();
+        wordsThatAreNot();
         manyWords();
+        thirtyWords();
         check.end();
     }
 
@@ -124,6 +127,42 @@ public final class FillTest {
         House.word(y, "cfa", 3);
         weigh(y, 66, 2);
         letters(y, "abcdefgha");
+    }
+
+    /** The word with a b can stand in one row alone, as two would make a column that is no word. */
+    private static void eachColumnMustBeAWord() {
+        String[] texts = {"baa", "aba", "aab"};
+        for (int column = 0; column < 3; column++) {
+            Clueyard x = new Clueyard();
+            House.word(x, "aaa", 0);
+            House.word(x, texts[column], 99);
+            weigh(x, 198, 2);
+            check.due("15: fillAt(" + 4 * column + ")", x.fillAt(4 * column), 1);
+        }
+    }
+
+    /** The columns are words, but the first row, aaa, is none. */
+    private static void wordsThatAreNot() {
+        Clueyard x = new Clueyard();
+        House.word(x, "bbb", 1);
+        House.word(x, "abb", 99);
+        weigh(x, 202, 2);
+        letters(x, "abbbbbbbb");
+    }
+
+    private static void thirtyWords() {
+        Clueyard x = new Clueyard();
+        for (int w = 0; w < 30; w++) {
+            x.clearSpelled();
+            x.spell(w / 9);
+            x.spell(w / 3 % 3);
+            x.spell(w % 3);
+            x.addWord(w);
+        }
+        x.fix(0, 3);
+        x.setWeight(29, 99);
+        weigh(x, 266, 729);
+        letters(x, "dacaccccc");
     }
 
     private static void manyWords() {

@@ -15,6 +15,7 @@ public final class SolverTest {
         judgingOpensAtOnce();
         solving();
         solvingByOpenCells();
+        lastOfAll();
         wrongNumbers();
         check.end();
     }
@@ -125,6 +126,10 @@ public final class SolverTest {
             check.due("26: judge(0, " + e + ")", x.judge(0, e), 0);
             check.due("28: open(0)", x.open(0), due[e]);
             check.state("26: judge(0, " + e + ") again", () -> x.judge(0, entry));
+        }
+        for (int e = 0; e < 6; e++) {
+            int entry = e;
+            check.state("26: judge(0, " + e + ") behind all", () -> x.judge(0, entry));
         }
         int[] columns = {73, 146, 292};
         check.due("28: open(1)", x.open(1), 0);
@@ -255,6 +260,33 @@ public final class SolverTest {
         x.pass(1);
         x.enter(1, 0, 8, 0);
         check.due("27: solvedAt(1, 0)", x.solvedAt(1, 0), 30);
+    }
+
+    /** The last solver in the last cell of the last puzzle. */
+    private static void lastOfAll() {
+        Clueyard x = new Clueyard();
+        House.word(x, "aaa", 1);
+        House.readyClues(x, 0, 60);
+        for (int p = 0; p < 20; p++) {
+            House.until(x, p < 10 ? 24 * p : 24 * (p + 400));
+            x.publish();
+        }
+        for (int s = 0; s < 6; s++) {
+            x.addSolver(s, 100);
+        }
+        x.pass(24);
+        check.due("25: help(5, 19, 8)", x.help(5, 19, 8), 0);
+        check.due("29: coins(5)", x.coins(5), 95);
+        House.enterCells(x, 5, 19, 0, 7);
+        check.due("27: solvedAt(5, 19)", x.solvedAt(5, 19), 24 * 420);
+        check.due("27: solvedAt(5, 18)", x.solvedAt(5, 18), Clueyard.NONE);
+        check.due("31: streakAnew(5)", x.streakAnew(5), 1);
+        check.due("26: judge(19, 5)", x.judge(19, 5), 0);
+        check.due("29: coins(5) then", x.coins(5), 100);
+        check.due("28: open(19)", x.open(19), 292);
+        check.due("28: open(18)", x.open(18), 0);
+        check.due("32: solverAt(0)", x.solverAt(0), 5);
+        check.due("32: solverAt(5)", x.solverAt(5), 4);
     }
 
     private static void wrongNumbers() {

@@ -53,6 +53,9 @@ public final class StreakTest {
         x.addSolver(0, 0);
         House.enterCells(x, 0, 0, 1, 8);
         House.enterCells(x, 1, 0, 0, 7);
+        for (int s = 0; s < 2; s++) {
+            streak("ahead of the last cell", x, s, 0);
+        }
         House.until(x, 24);
         House.enterCells(x, 0, 0, 0, 0);
         House.enterCells(x, 1, 0, 8, 8);
@@ -112,6 +115,8 @@ public final class StreakTest {
         x.addSolver(-12, 0);
         House.enterCells(x, 0, 0, 0, 8);
         streak("in the hour 0", x, 0, 1);
+        x.addSolver(-12, 0);
+        streak("of another in the hour 0", x, 1, 0);
         House.until(x, 12);
         streak("in the hour 12", x, 0, 1);
         House.until(x, 24);
