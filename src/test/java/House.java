@@ -30,8 +30,9 @@ final class House {
 
     /** Lets time pass up to an hour. */
     static void until(Clueyard x, int hour) {
-        while (x.now() < hour) {
-            x.pass(Math.min(2000, hour - x.now()));
+        int now = x.now();
+        while (now < hour) {
+            now = x.pass(Math.min(2000, hour - now));
         }
     }
 
@@ -55,6 +56,18 @@ final class House {
             if (p + 1 < count) {
                 x.pass(24);
             }
+        }
+        return x;
+    }
+
+    /** The most puzzles there can be, on the days 0 to 9 and 410 to 419; now is the day of the last one. */
+    static Clueyard withMostPuzzles() {
+        Clueyard x = new Clueyard();
+        word(x, "aaa", 1);
+        readyClues(x, 0, 60);
+        for (int p = 0; p < 20; p++) {
+            until(x, p < 10 ? 24 * p : 24 * (p + 400));
+            x.publish();
         }
         return x;
     }

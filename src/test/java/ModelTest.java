@@ -27,8 +27,8 @@ public final class ModelTest {
             new ModelTest(run).play();
         }
         for (int kind = 0; kind < 31; kind++) {
-            check.holds("calls of kind " + kind + " were answered", answered[kind] > 0);
-            check.holds("calls of kind " + kind + " threw", thrown[kind] > 0 || NEVER_THROW.contains(kind));
+            check.holds("calls of " + Calls.NAMES[kind] + " were answered", answered[kind] > 0);
+            check.holds("calls of " + Calls.NAMES[kind] + " threw", thrown[kind] > 0 || NEVER_THROW.contains(kind));
         }
         check.end();
     }
@@ -135,58 +135,22 @@ public final class ModelTest {
             return;
         }
         calls++;
-        String got = answer(kind, a, b, c, d, true);
-        String want = answer(kind, a, b, c, d, false);
-        if (want.startsWith("class")) {
+        String got = Calls.answer(house, Calls.NAMES[kind], a, b, c, d);
+        String want = due(kind, a, b, c, d);
+        if (want.endsWith("Exception")) {
             thrown[kind]++;
         } else {
             answered[kind]++;
         }
-        check.holds("call " + calls + " of kind " + kind + " (" + a + ", " + b + ", " + c + ", " + d + ") answers "
+        check.holds("call " + calls + ", " + Calls.NAMES[kind] + "(" + a + ", " + b + ", " + c + ", " + d + ") answers "
                 + want + " and not " + got, got.equals(want));
     }
 
-    private String answer(int kind, int a, int b, int c, int d, boolean isHouse) {
+    private String due(int kind, int a, int b, int c, int d) {
         try {
-            return "" + (isHouse ? ofHouse(kind, a, b, c, d) : ofModel(kind, a, b, c, d));
+            return "" + ofModel(kind, a, b, c, d);
         } catch (RuntimeException e) {
-            return "" + e.getClass();
-        }
-    }
-
-    private int ofHouse(int kind, int a, int b, int c, int d) {
-        switch (kind) {
-            case 0: return house.spell(a);
-            case 1: return house.insert(a);
-            case 2: return house.turn();
-            case 3: return house.clearSpelled();
-            case 4: return house.charAt(a);
-            case 5: return house.addWord(a);
-            case 6: return house.setWeight(a, b);
-            case 7: return house.wordAt(a);
-            case 8: return house.beginning();
-            case 9: return house.fix(a, b);
-            case 10: return house.fillWeight();
-            case 11: return house.fillWeightByAll();
-            case 12: return house.fills();
-            case 13: return house.fillAt(a);
-            case 14: return house.clue(a);
-            case 15: return house.edit(a, (b & 1) == 1);
-            case 16: return house.lastUsed(a);
-            case 17: return house.pass(a);
-            case 18: return house.now();
-            case 19: return house.publish();
-            case 20: return house.clueOf(a, b);
-            case 21: return house.addSolver(a, b);
-            case 22: return house.enter(a, b, c, d) ? 1 : 0;
-            case 23: return house.help(a, b, c);
-            case 24: return house.judge(a, b);
-            case 25: return house.solvedAt(a, b);
-            case 26: return house.open(a);
-            case 27: return house.coins(a);
-            case 28: return house.streak(a);
-            case 29: return house.streakAnew(a);
-            default: return house.solverAt(a);
+            return e.getClass().getSimpleName();
         }
     }
 

@@ -264,13 +264,7 @@ public final class SolverTest {
 
     /** The last solver in the last cell of the last puzzle. */
     private static void lastOfAll() {
-        Clueyard x = new Clueyard();
-        House.word(x, "aaa", 1);
-        House.readyClues(x, 0, 60);
-        for (int p = 0; p < 20; p++) {
-            House.until(x, p < 10 ? 24 * p : 24 * (p + 400));
-            x.publish();
-        }
+        Clueyard x = House.withMostPuzzles();
         for (int s = 0; s < 6; s++) {
             x.addSolver(s, 100);
         }
