@@ -286,6 +286,20 @@ final class Model {
         return puzzles.size() - 1;
     }
 
+    /** Whether a clue of the puzzle was used on an earlier day, too. */
+    boolean hasClueUsedAgain(int puzzle) {
+        for (int clue : puzzles.get(puzzle).clues) {
+            if (uses.get(clue).size() > 1) {
+                return true;
+            }
+        }
+        return false;
+    }
+
+    int letter(int puzzle, int cell) {
+        return letterNumber(puzzles.get(puzzle).cells[cell]);
+    }
+
     int clueOf(int puzzle, int entry) {
         index(below(puzzle, puzzles.size()) && below(entry, 6));
         return puzzles.get(puzzle).clues[entry];

@@ -2,8 +2,22 @@ import java.util.Random;
 
 /** Long runs of calls, the same each time, on a Clueyard and on the model; every answer must be the same. */
 public final class ModelTest {
-    private static final int RUNS = 400;
+    /**
+     * Any calls; puzzles that are solved day by day; clues that are used again when their year is over;
+     * fills of many words, several of them with the same weight.
+     */
+    private enum Kind {
+        MIXED(300), DAYS(300), YEARS(300), FILLS(60);
+
+        final int runs;
+
+        Kind(int runs) {
+            this.runs = runs;
+        }
+    }
+
     private static final int CALLS = 512;
+    private static final int[] LEAPS = {1, 2, 363, 364, 365, 366};
 
     private static final java.util.List<Integer> NEVER_THROW = java.util.List.of(2, 3, 7, 8, 10, 11, 12, 18, 30);
 
@@ -11,25 +25,36 @@ public final class ModelTest {
     private static final long[] answered = new long[32];
     private static final long[] thrown = new long[32];
 
+    private static int usedAgain;
+    private static int longestStreak;
+    private static int mostMended;
+
+    private final Kind kind;
     private final Random random;
     private final Clueyard house = new Clueyard();
     private final Model model = new Model();
     private final int letters;
     private int calls;
 
-    private ModelTest(int run) {
+    private ModelTest(Kind kind, int run) {
+        this.kind = kind;
         random = new Random(run);
-        letters = 1 + random.nextInt(3);
+        letters = kind == Kind.FILLS ? 2 : 1 + random.nextInt(3);
     }
 
     public static void main(String[] args) {
-        for (int run = 0; run < RUNS; run++) {
-            new ModelTest(run).play();
+        for (Kind kind : Kind.values()) {
+            for (int run = 0; run < kind.runs; run++) {
+                new ModelTest(kind, run).play();
+            }
         }
-        for (int kind = 0; kind < 31; kind++) {
-            check.holds("calls of " + Calls.NAMES[kind] + " were answered", answered[kind] > 0);
-            check.holds("calls of " + Calls.NAMES[kind] + " threw", thrown[kind] > 0 || NEVER_THROW.contains(kind));
+        for (int call = 0; call < 31; call++) {
+            check.holds("calls of " + Calls.NAMES[call] + " were answered", answered[call] > 0);
+            check.holds("calls of " + Calls.NAMES[call] + " threw", thrown[call] > 0 || NEVER_THROW.contains(call));
         }
+        check.holds("clues were used again", usedAgain > 0);
+        check.holds("there were streaks of many days", longestStreak > 4);
+        check.holds("the streaks of several solvers were mended at once", mostMended > 1);
         check.end();
     }
 
@@ -38,7 +63,35 @@ public final class ModelTest {
         for (int i = 0; i < 3 * wordsWanted && model.words.size() < wordsWanted; i++) {
             addRandomWord();
         }
-        int readyWanted = 6 + random.nextInt(20);
+        if (kind == Kind.FILLS) {
+            playWithFills();
+        } else {
+            playWithPuzzles();
+        }
+    }
+
+    private void playWithFills() {
+        while (calls < CALLS) {
+            int choice = random.nextInt(6);
+            if (choice < 2 && model.words.size() < 14) {
+                addRandomWord();
+            } else if (choice < 4) {
+                call(6, random.nextInt(model.words.size()), random.nextInt(3), 0, 0);
+            } else {
+                call(9, random.nextInt(9), random.nextInt(3) == 0 ? someLetter() : Clueyard.NONE, 0, 0);
+            }
+            for (int call = 10; call <= 12; call++) {
+                call(call, 0, 0, 0, 0);
+            }
+            for (int cell = 0; cell < 9; cell++) {
+                call(13, cell, 0, 0, 0);
+            }
+            call(7, random.nextInt(14), 0, 0, 0);
+        }
+    }
+
+    private void playWithPuzzles() {
+        int readyWanted = kind == Kind.DAYS ? 30 + random.nextInt(20) : 6 + random.nextInt(20);
         for (int i = 0; i < readyWanted && !model.words.isEmpty(); i++) {
             call(14, bestWord(), 0, 0, 0);
             int clue = model.clueWords.size() - 1;
@@ -46,8 +99,58 @@ public final class ModelTest {
             call(15, clue, 1, 0, 0);
         }
         while (calls < CALLS) {
-            step();
+            if (kind == Kind.MIXED || random.nextInt(3) == 0) {
+                step();
+            } else if (kind == Kind.DAYS) {
+                oneDay();
+            } else {
+                oneLeap();
+            }
         }
+    }
+
+    private void oneDay() {
+        call(19, 0, 0, 0, 0);
+        for (int s = model.solvers.size() - 1; s < 5 && random.nextInt(3) == 0; s++) {
+            call(21, random.nextInt(27) - 12, random.nextInt(600), 0, 0);
+        }
+        int puzzle = model.puzzles.size() - 1 - random.nextInt(2);
+        for (int s = 0; s < model.solvers.size() && puzzle >= 0; s++) {
+            enterRow(s, puzzle, 0);
+            enterRow(s, puzzle, 1);
+            enterRow(s, puzzle, random.nextInt(5) == 0 ? 0 : 2);
+        }
+        call(17, 1 + random.nextInt(34), 0, 0, 0);
+        call(24, random.nextInt(1 + model.puzzles.size()), random.nextInt(6), 0, 0);
+        for (int s = 0; s < model.solvers.size(); s++) {
+            call(28 + random.nextInt(2), s, 0, 0, 0);
+        }
+        call(30, random.nextInt(6), 0, 0, 0);
+    }
+
+    private void enterRow(int solver, int puzzle, int row) {
+        for (int cell = 3 * row; cell < 3 * row + 3; cell++) {
+            if (random.nextInt(solver == 0 ? 2 : 12) == 0) {
+                call(23, solver, puzzle, cell, 0);
+            } else {
+                call(22, solver, puzzle, cell, model.letter(puzzle, cell));
+            }
+        }
+    }
+
+    /** To any hour of a day that is near the first one, or about a year away from it. */
+    private void oneLeap() {
+        int hours = 24 * LEAPS[random.nextInt(LEAPS.length)] - model.now() % 24 + random.nextInt(24);
+        while (hours > 0) {
+            call(17, Math.min(hours, 2000), 0, 0, 0);
+            hours -= 2000;
+        }
+        call(19, 0, 0, 0, 0);
+        int puzzle = model.puzzles.size() - 1;
+        for (int entry = 0; entry < 6; entry++) {
+            call(20, puzzle, entry, 0, 0);
+        }
+        call(16, random.nextInt(1 + model.clueWords.size()), 0, 0, 0);
     }
 
     private void addRandomWord() {
@@ -55,11 +158,11 @@ public final class ModelTest {
         for (int i = 0; i < 3; i++) {
             call(random.nextInt(2), someLetter(), 0, 0, 0);
         }
-        call(5, random.nextInt(100), 0, 0, 0);
+        call(5, random.nextInt(kind == Kind.FILLS ? 3 : 100), 0, 0, 0);
     }
 
     private int someLetter() {
-        int letter = random.nextInt(letters);
+        int letter = random.nextInt(kind == Kind.FILLS && random.nextInt(12) == 0 ? 3 : letters);
         return letter == 1 ? 8 : letter;
     }
 
@@ -103,22 +206,21 @@ public final class ModelTest {
         for (int i = random.nextInt(9); i >= 0; i--) {
             int cell = random.nextInt(9);
             boolean isTrue = !model.puzzles.isEmpty() && random.nextInt(8) > 0;
-            int letter = isTrue ? java.util.Arrays.asList(Model.LETTERS).indexOf(model.puzzles.get(puzzle).cells[cell])
-                    : random.nextInt(9);
+            int letter = isTrue ? model.letter(puzzle, cell) : random.nextInt(9);
             call(22, solver, puzzle, cell, letter);
         }
     }
 
     private void ask(int solver, int puzzle) {
-        int[] kinds = {25, 26, 27, 28, 29, 30, 16, 20, 10, 13, 18, 12};
-        int kind = kinds[random.nextInt(kinds.length)];
-        switch (kind) {
-            case 25 -> call(kind, solver, puzzle, 0, 0);
-            case 26 -> call(kind, puzzle, 0, 0, 0);
-            case 27, 28, 29 -> call(kind, solver, 0, 0, 0);
-            case 30 -> call(kind, random.nextInt(7), 0, 0, 0);
-            case 20 -> call(kind, puzzle, random.nextInt(6), 0, 0);
-            default -> call(kind, random.nextInt(9), 0, 0, 0);
+        int[] calls = {25, 26, 27, 28, 29, 30, 16, 20, 10, 13, 18, 12};
+        int call = calls[random.nextInt(calls.length)];
+        switch (call) {
+            case 25 -> call(call, solver, puzzle, 0, 0);
+            case 26 -> call(call, puzzle, 0, 0, 0);
+            case 27, 28, 29 -> call(call, solver, 0, 0, 0);
+            case 30 -> call(call, random.nextInt(7), 0, 0, 0);
+            case 20 -> call(call, puzzle, random.nextInt(6), 0, 0);
+            default -> call(call, random.nextInt(9), 0, 0, 0);
         }
     }
 
@@ -130,32 +232,44 @@ public final class ModelTest {
         return choice < 4 ? random.nextInt(4000) - 1000 : random.nextInt(count) - 1;
     }
 
-    private void call(int kind, int a, int b, int c, int d) {
+    private void call(int call, int a, int b, int c, int d) {
         if (calls >= CALLS) {
             return;
         }
         calls++;
-        String got = Calls.answer(house, Calls.NAMES[kind], a, b, c, d);
-        String want = due(kind, a, b, c, d);
+        String got = Calls.answer(house, Calls.NAMES[call], a, b, c, d);
+        String want = due(call, a, b, c, d);
         if (want.endsWith("Exception")) {
-            thrown[kind]++;
+            thrown[call]++;
         } else {
-            answered[kind]++;
+            answered[call]++;
+            reached(call, Integer.parseInt(want));
         }
-        check.holds("call " + calls + ", " + Calls.NAMES[kind] + "(" + a + ", " + b + ", " + c + ", " + d + ") answers "
+        check.holds("call " + calls + ", " + Calls.NAMES[call] + "(" + a + ", " + b + ", " + c + ", " + d + ") answers "
                 + want + " and not " + got, got.equals(want));
     }
 
-    private String due(int kind, int a, int b, int c, int d) {
+    /** Runs that come nowhere would find nothing. */
+    private void reached(int call, int answer) {
+        if (call == 19 && model.hasClueUsedAgain(answer)) {
+            usedAgain++;
+        } else if (call == 24) {
+            mostMended = Math.max(mostMended, answer);
+        } else if (call == 28) {
+            longestStreak = Math.max(longestStreak, answer);
+        }
+    }
+
+    private String due(int call, int a, int b, int c, int d) {
         try {
-            return "" + ofModel(kind, a, b, c, d);
+            return "" + ofModel(call, a, b, c, d);
         } catch (RuntimeException e) {
             return e.getClass().getSimpleName();
         }
     }
 
-    private int ofModel(int kind, int a, int b, int c, int d) {
-        switch (kind) {
+    private int ofModel(int call, int a, int b, int c, int d) {
+        switch (call) {
             case 0: return model.spell(a);
             case 1: return model.insert(a);
             case 2: return model.turn();
